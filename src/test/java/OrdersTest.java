@@ -53,6 +53,11 @@ public final class OrdersTest {
         Check.is("11: undone", x.orders() + "," + x.thingsOf(1), "3,7");
         x.cancel(2);
         Check.is("11: the last", x.thingsOf(0) + "," + x.thingsOf(1), "25,7");
+        for (int order = 2; order < 8; order++) {
+            Check.order(x, "8*1".replace('1', (char) ('0' + order)));
+        }
+        Check.is("11: the first of 8", x.cancel(0), 25);
+        Check.is("11: the last of 7", x.wanted(6, 8), 7);
     }
 
     private static void promise56CanServe() {
@@ -195,9 +200,10 @@ public final class OrdersTest {
         Check.order(x, "5*1");
         Check.order(x, "1*10");
         int before = x.ticks();
-        long digest = x.digest();
         // The second, then not the third, for lack of 1, then the fourth and the sixth.
         Check.is("63: servable", x.servable(), 3);
+        long digest = x.digest();
+        Check.is("63: servable, once more", x.servable(), 3);
         Check.is("63: changes nothing", x.digest(), digest);
         int spent = x.serveAll();
         Check.is("13: ticks", x.ticks(), before + spent);
@@ -230,6 +236,14 @@ public final class OrdersTest {
         // 4 to 0, twice 0; 0 to 0, twice 2; 0 to 2, twice 2; 2 to 3, twice 3; 3 to 4, twice 6.
         Check.is("60: all shelves", x.ticksByServing(1), 4 + 4 + 2 + 4 + 1 + 6 + 1 + 12);
         Check.is("61: all shelves", x.ticksBySums(1), 34);
+        x.fetch(0);
+        x.stowAt(0, 18);
+        Check.order(x, "0*2");
+        Check.is("60: the first shelf, at the lift", x.ticksByServing(3), 36);
+        Check.is("61: the first shelf, at the lift", x.ticksBySums(3), 36);
+        x.undo();
+        x.undo();
+        x.undo();
         Check.fails("60: no choice", x, STATE, () -> x.ticksByServing(2));
         Check.fails("61: no choice", x, STATE, () -> x.ticksBySums(2));
         long before = x.digest();

@@ -92,6 +92,36 @@ public final class TowerTest {
         Check.is("3: emptied", z.scrap(0), 2);
     }
 
+    private static void promise3ScrapAndAddAnew() {
+        GlideShelves x = Check.tower(1, 2);
+        Check.restock(x, 1, 0, 5);
+        Check.restock(x, 1, 9, 5);
+        x.scrap(0);
+        Check.is("2: the one added then", x.addShelf(1), 1);
+        Check.is("2: is empty", x.thingsIn(1, 0) + x.thingsIn(1, 9) + x.weightOf(1), 0);
+        Check.is("2: was never fetched", x.fetchesOf(1), 0);
+        Check.restock(x, 1, 0, 1);
+        Check.fails("3: one thing of the first kind", x, STATE, () -> x.scrap(1));
+        GlideShelves twelve = Check.tower(1, 1, 1, 1, 1, 1, 1, 1, 1, 1, 1, 1);
+        Check.restock(twelve, 11, 9, 1);
+        Check.is("3: the first of 12", twelve.scrap(0), 1);
+        Check.fails("3: one thing of the last kind", twelve, STATE, () -> twelve.scrap(10));
+        Check.is("3: the last of 11 that is empty", twelve.scrap(9), 1);
+        Check.is("3: then the last has the thing", twelve.thingsIn(9, 9), 1);
+        GlideShelves full = Check.tower(1, 1, 1, 1, 1, 1, 1, 1, 1, 1, 1, 4);
+        Check.is("3: the last of 12", full.scrap(11), 4);
+    }
+
+    private static void promise7TwelveAndFewer() {
+        GlideShelves x = Check.tower(1, 1, 1, 1, 1, 1, 1, 1, 1, 1, 1, 1);
+        useOften(x, 11, 1);
+        Check.is("7: all of 12 move", x.pack(), 12);
+        x.scrap(11);
+        x.scrap(10);
+        Check.is("41: the others move back", x.wouldPack(), 10);
+        Check.is("42: nothing in there", x.sideWeight(0) + x.sideWeight(1), 0);
+    }
+
     private static void promise6StowAt() {
         GlideShelves x = Check.tower(2, 4, 1, 3);
         Check.fails("6: no shelf", x, STATE, () -> x.stowAt(0, 10));
@@ -266,6 +296,8 @@ public final class TowerTest {
         promise1ANewObject();
         promise2AddShelf();
         promise3Scrap();
+        promise3ScrapAndAddAnew();
+        promise7TwelveAndFewer();
         promise6StowAt();
         promise7And41Pack();
         promise7SomeWouldNotFit();

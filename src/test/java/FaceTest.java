@@ -138,7 +138,8 @@ public final class FaceTest {
             Check.is(inside + " is public or protected",
                     (inside.getModifiers() & (Modifier.PUBLIC | Modifier.PROTECTED)) != 0, false);
             for (Method method : inside.getDeclaredMethods()) {
-                Check.is(method + " bears a public name", publicNames.contains(method.getName()), false);
+                boolean isPrivate = Modifier.isPrivate(method.getModifiers());
+                Check.is(method + " bears a public name", isPrivate && publicNames.contains(method.getName()), false);
             }
         }
     }

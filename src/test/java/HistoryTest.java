@@ -1,5 +1,6 @@
 import java.util.ArrayList;
 import java.util.List;
+import java.util.function.Consumer;
 
 /** Snapshots and undo: promises 20 to 23, and which calls are undoable. */
 public final class HistoryTest {
@@ -45,37 +46,47 @@ public final class HistoryTest {
         return x;
     }
 
-    private static void undoes(String what, GlideShelves x, Runnable call) {
+    private static void undoes(String what, GlideShelves x, Consumer<GlideShelves> call) {
         String before = stateOf(x);
         int saved = x.savedStates();
-        call.run();
+        call.accept(x);
         Check.is("23: saved by " + what, x.savedStates(), Math.min(saved + 1, 6));
         x.undo();
         Check.is("22: undone: " + what, stateOf(x), before);
     }
 
     private static void promise22EachUndoableCall() {
+        // A new object each time, so that none is asked for more than 512 calls.
+        undoes("addShelf", busy(), x -> x.addShelf(3));
+        undoes("scrap", busy(), x -> x.scrap(2));
+        undoes("fetch", busy(), x -> x.fetch(2));
+        undoes("pack", busy(), GlideShelves::pack);
+        undoes("accept", busy(), x -> Check.order(x, "9*9"));
+        undoes("cancel", busy(), x -> x.cancel(0));
+        undoes("serve", busy(), x -> x.serve(1));
+        undoes("serveAll", busy(), GlideShelves::serveAll);
+        undoes("changeLeast", busy(), x -> x.changeLeast(3, 5));
+        undoes("changeLeast to the same", busy(), x -> x.changeLeast(3, 4));
+        undoes("changeWeight", busy(), x -> x.changeWeight(0, 9));
+        undoes("turnRule", busy(), GlideShelves::turnRule);
+        undoes("stow", fetched(), GlideShelves::stow);
+        undoes("stowAt", fetched(), x -> x.stowAt(1, 16));
+        undoes("fill", fetched(), x -> x.fill(5, 20));
+        undoes("take", fetched(), x -> x.take(1, 5));
+        GlideShelves kept = new GlideShelves();
+        kept.keep(1);
+        kept.addShelf(2);
+        undoes("goBack", kept, x -> x.goBack(1));
+        GlideShelves buffer = new GlideShelves();
+        Check.order(buffer, "9*9");
+        buffer.undo();
+        Check.is("22: not the buffer", buffer.clearBuffer(), 0);
+    }
+
+    private static GlideShelves fetched() {
         GlideShelves x = busy();
-        undoes("addShelf", x, () -> x.addShelf(3));
-        undoes("scrap", x, () -> x.scrap(2));
-        undoes("fetch", x, () -> x.fetch(2));
-        undoes("pack", x, x::pack);
-        Check.type(x, "9*9");
-        undoes("accept", x, x::accept);
-        Check.is("22: not the buffer", x.clearBuffer(), 0);
-        undoes("cancel", x, () -> x.cancel(0));
-        undoes("serve", x, () -> x.serve(1));
-        undoes("serveAll", x, x::serveAll);
-        undoes("changeLeast", x, () -> x.changeLeast(3, 4));
-        undoes("changeWeight", x, () -> x.changeWeight(0, 9));
-        undoes("turnRule", x, x::turnRule);
         x.fetch(1);
-        undoes("stow", x, x::stow);
-        undoes("stowAt", x, () -> x.stowAt(1, 16));
-        undoes("fill", x, () -> x.fill(5, 20));
-        undoes("take", x, () -> x.take(1, 5));
-        x.keep(1);
-        undoes("goBack", x, () -> x.goBack(1));
+        return x;
     }
 
     private static void promise23NoOtherCallSaves() {

@@ -106,18 +106,26 @@ public final class HistoryTest {
         Check.is("23: still one", x.savedStates(), 1);
     }
 
+    private static String leastsOf(GlideShelves x) {
+        StringBuilder all = new StringBuilder();
+        for (int kind = 0; kind < 10; kind++) {
+            all.append(x.leastOf(kind)).append(' ');
+        }
+        return all.toString();
+    }
+
     private static void promise22And23SixStates() {
         GlideShelves x = new GlideShelves();
         Check.failsToRun("22: none", x, STATE, x::undo);
         List<String> states = new ArrayList<>();
         for (int i = 0; i < 9; i++) {
-            states.add(stateOf(x));
+            states.add(leastsOf(x));
             x.changeLeast(i, 10 + i);
             Check.is("23: saved", x.savedStates(), Math.min(i + 1, 6));
         }
         for (int i = 8; i >= 3; i--) {
             x.undo();
-            Check.is("22: undone " + i, stateOf(x), states.get(i));
+            Check.is("22: undone " + i, leastsOf(x), states.get(i));
             Check.is("23: dropped", x.savedStates(), i - 3);
         }
         Check.failsToRun("22: the oldest ones are dropped", x, STATE, x::undo);
@@ -132,7 +140,25 @@ public final class HistoryTest {
         Check.is("22: and the one before", x.isKeptPlace(), true);
     }
 
-    private static void promise20And21Snapshots() {
+    private static void changeAll(GlideShelves x) {
+        x.fetch(1);
+        x.fill(7, 7);
+        x.turnRule();
+        x.cancel(0);
+        x.changeWeight(2, 8);
+    }
+
+    /** A snapshot of busy() in slot 0, one of what changeAll() makes of it in slot 1, and one call more. */
+    private static GlideShelves twoKept() {
+        GlideShelves x = busy();
+        x.keep(0);
+        changeAll(x);
+        x.keep(1);
+        x.stow();
+        return x;
+    }
+
+    private static void promise20And21Refused() {
         GlideShelves x = busy();
         for (int slot : new int[] {-1, 2, Integer.MIN_VALUE, Integer.MAX_VALUE}) {
             Check.failsToRun("20: slot " + slot, x, ARGUMENT, () -> x.keep(slot));
@@ -140,17 +166,16 @@ public final class HistoryTest {
         }
         int saved = x.savedStates();
         x.keep(0);
-        String first = stateOf(x);
         Check.is("20: not undoable", x.savedStates(), saved);
         Check.failsToRun("21: the other one is empty", x, STATE, () -> x.goBack(1));
-        x.fetch(1);
-        x.fill(7, 7);
-        x.turnRule();
-        x.cancel(0);
-        x.changeWeight(2, 8);
-        x.keep(1);
-        String second = stateOf(x);
-        x.stow();
+    }
+
+    private static void promise20And21Snapshots() {
+        GlideShelves changed = busy();
+        changeAll(changed);
+        String first = stateOf(busy());
+        String second = stateOf(changed);
+        GlideShelves x = twoKept();
         Check.type(x, "4*4");
         x.goBack(0);
         Check.is("21: the first", stateOf(x), first);
@@ -159,17 +184,19 @@ public final class HistoryTest {
         Check.is("21: the second", stateOf(x), second);
         x.undo();
         Check.is("21: undone", stateOf(x), first);
-        x.scrap(2);
-        x.goBack(0);
-        Check.is("21: it stays", stateOf(x), first);
-        x.undo();
-        Check.is("21: undone to the state before", x.shelves(), 2);
-        x.keep(0);
-        x.undo();
-        x.goBack(0);
-        Check.is("20: in place of the one before", x.shelves(), 2);
-        x.goBack(1);
-        Check.is("20: the other one stays", stateOf(x), second);
+        GlideShelves y = twoKept();
+        y.goBack(0);
+        y.scrap(2);
+        y.goBack(0);
+        Check.is("21: it stays", stateOf(y), first);
+        y.undo();
+        Check.is("21: undone to the state before", y.shelves(), 2);
+        y.keep(0);
+        y.undo();
+        y.goBack(0);
+        Check.is("20: in place of the one before", y.shelves(), 2);
+        y.goBack(1);
+        Check.is("20: the other one stays", stateOf(y), second);
     }
 
     private static void promise21UndoLeavesSnapshots() {
@@ -190,6 +217,7 @@ public final class HistoryTest {
         promise22EachUndoableCall();
         promise23NoOtherCallSaves();
         promise22And23SixStates();
+        promise20And21Refused();
         promise20And21Snapshots();
         promise21UndoLeavesSnapshots();
         Check.end("HistoryTest");

@@ -1,6 +1,12 @@
+import java.util.ArrayList;
+import java.util.List;
+import java.util.regex.Matcher;
+import java.util.regex.Pattern;
+
 /**
- * What the tests of edges share. Each test there names the sentence of the document that it is about (SentencesTest
- * looks whether it stands there, and whether none is left out), then asks just inside and just outside of it.
+ * What the tests of sentences share. Each test there names the sentence of the document that it is about (SentencesTest
+ * looks whether it stands there, and whether none is left out). The Says tests ask what the sentence says, the Edge tests
+ * just inside and just outside of it.
  */
 final class Edge {
     /** Makes the same object each time. */
@@ -16,6 +22,10 @@ final class Edge {
         void on(GlideShelves x, int number);
     }
 
+    interface Ask {
+        Object of(GlideShelves x, int number);
+    }
+
     static final Class<?> INDEX = IndexOutOfBoundsException.class;
     static final Class<?> ARGUMENT = IllegalArgumentException.class;
     static final Class<?> STATE = IllegalStateException.class;
@@ -24,17 +34,47 @@ final class Edge {
     static final String ALL_KINDS = "0*20,1*20,2*20,3*20,4*20,5*20,6*20,7*20,8*20,9*20";
 
     private static String sentence = "";
+    private static int asked = 1;
 
     private Edge() {
     }
 
     /** The promise (0 for the terms) and the words of the document that the next checks are about. */
     static void of(int promise, String words) {
+        requireAsked();
         sentence = promise + ", \"" + words + "\": ";
+        asked = 0;
+    }
+
+    private static void requireAsked() {
+        Check.is(sentence + "something is asked", asked > 0, true);
+    }
+
+    static void end(String test) {
+        requireAsked();
+        Check.end(test);
     }
 
     static void is(String what, Object got, Object due) {
+        asked++;
         Check.is(sentence + what, got, due);
+    }
+
+    /** Asks for 0, 1, 2 and so on, as many as there are answers due. */
+    static void each(GlideShelves x, Ask ask, Object... dues) {
+        for (int number = 0; number < dues.length; number++) {
+            is("of " + number, ask.of(x, number), dues[number]);
+        }
+    }
+
+    /** The calls that the sentence names. */
+    static List<String> calls() {
+        List<String> names = new ArrayList<>();
+        Matcher matcher = Pattern.compile("`(\\w+)`").matcher(sentence);
+        while (matcher.find()) {
+            names.add(matcher.group(1));
+        }
+        return names;
     }
 
     /** The call throws just this, and the object is then like one that was not asked, to its last saved state. */
@@ -65,6 +105,47 @@ final class Edge {
         GlideShelves asked = maker.make();
         call.on(asked);
         is(what + " changes nothing", story(asked), story(maker.make()));
+    }
+
+    /** The call saves the state from before it, also where the oldest of 6 is dropped for it, and undo restores that. */
+    static void undoable(Maker maker, Act call) {
+        GlideShelves x = unsaved(maker);
+        call.on(x);
+        is("one state is saved", x.savedStates(), 1);
+        x.undo();
+        is("undone", story(x), story(unsaved(maker)));
+        GlideShelves seventh = turned(maker, 6);
+        call.on(seventh);
+        is("of 7 states 6 are saved", seventh.savedStates(), 6);
+        seventh.undo();
+        // A seventh turning of the rule drops the same state.
+        GlideShelves twin = turned(maker, 7);
+        twin.undo();
+        is("undone, of 7", story(seventh), story(twin));
+    }
+
+    private static GlideShelves turned(Maker maker, int times) {
+        GlideShelves x = maker.make();
+        for (int i = 0; i < times; i++) {
+            x.turnRule();
+        }
+        return x;
+    }
+
+    /** The object without saved states, else as it is made. */
+    static GlideShelves unsaved(Maker maker) {
+        GlideShelves x = turned(maker, 6);
+        for (int i = 0; i < 6; i++) {
+            x.undo();
+        }
+        return x;
+    }
+
+    /** The call changes something that can be told. */
+    static void changes(String what, Maker maker, Act call) {
+        GlideShelves asked = maker.make();
+        call.on(asked);
+        is(what + " changes something", story(asked).equals(story(maker.make())), false);
     }
 
     /** All that can be told of an object: as it is, then of its saved states, then of its snapshots. */
@@ -117,6 +198,13 @@ final class Edge {
         x.keep(1);
         Check.order(x, "5*1");
         Check.type(x, "7*");
+        return x;
+    }
+
+    /** As rich(), with the first order served: the shelf 0 has given 7 things, the shelf 3 has given 2. */
+    static GlideShelves served() {
+        GlideShelves x = rich();
+        x.serve(0);
         return x;
     }
 

@@ -116,7 +116,8 @@ public final class EdgeAccountsTest {
     }
 
     private static void promise70And71() {
-        Edge.of(70, "the ways of all places from the window, each times how often its shelf was fetched, together.");
+        Edge.of(70, "Tells how well the places suit the use: the ways of all places from the window, each times how often its"
+                + " shelf was fetched, together.");
         Edge.is("none there", new GlideShelves().usedWays(), 0);
         Edge.is("never fetched", Edge.full().usedWays(), 0);
         GlideShelves x = Check.tower(1, 1);
@@ -357,6 +358,6 @@ public final class EdgeAccountsTest {
         promise73();
         promise73Values();
         promise73Snapshots();
-        Check.end("EdgeAccountsTest");
+        Edge.end("EdgeAccountsTest");
     }
 }

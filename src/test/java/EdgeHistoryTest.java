@@ -196,13 +196,7 @@ public final class EdgeHistoryTest {
 
     /** As rich(), but without saved states, so that one more can be seen, and with an empty buffer. */
     private static GlideShelves unsaved() {
-        GlideShelves x = Edge.rich();
-        for (int i = 0; i < 6; i++) {
-            x.turnRule();
-        }
-        for (int i = 0; i < 6; i++) {
-            x.undo();
-        }
+        GlideShelves x = Edge.unsaved(Edge::rich);
         x.clearBuffer();
         return x;
     }
@@ -266,6 +260,6 @@ public final class EdgeHistoryTest {
         savedAlsoIfNothingChanges();
         eachUndoableCallSaves();
         saveNothing();
-        Check.end("EdgeHistoryTest");
+        Edge.end("EdgeHistoryTest");
     }
 }

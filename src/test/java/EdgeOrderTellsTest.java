@@ -149,7 +149,8 @@ public final class EdgeOrderTellsTest {
     }
 
     private static void promise57To59EachOnce() {
-        Edge.of(58, "by going from shelf to shelf, which is taken or left, as long as fewer shelves are taken than were found to be enough.");
+        Edge.of(58, "Tells how few shelves can serve an order, by going from shelf to shelf, which is taken or left, as long as"
+                + " fewer shelves are taken than were found to be enough.");
         choice(shelvesOf("0*5", 3, 1, 1), 0, 0b111);
         choice(shelvesOf("0*6", 3, 3, 5), 0, 0b011);
         choice(shelvesOf("0*6", 1, 1, 1, 1, 1, 1), 0, 0b111111);
@@ -329,6 +330,6 @@ public final class EdgeOrderTellsTest {
         promise60And61Refused();
         promise62();
         promise63();
-        Check.end("EdgeOrderTellsTest");
+        Edge.end("EdgeOrderTellsTest");
     }
 }

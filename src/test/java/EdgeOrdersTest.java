@@ -317,6 +317,6 @@ public final class EdgeOrdersTest {
         promise15();
         promise15TooHeavy();
         promise16();
-        Check.end("EdgeOrdersTest");
+        Edge.end("EdgeOrdersTest");
     }
 }

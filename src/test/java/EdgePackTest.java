@@ -107,6 +107,6 @@ public final class EdgePackTest {
         promise7TheLift();
         promise7Refused();
         promise41();
-        Check.end("EdgePackTest");
+        Edge.end("EdgePackTest");
     }
 }

@@ -394,6 +394,6 @@ public final class EdgeShelvesTest {
         promise8TooHeavy();
         promise9Ranges();
         promise9NotSoMany();
-        Check.end("EdgeShelvesTest");
+        Edge.end("EdgeShelvesTest");
     }
 }

@@ -1,110 +1,85 @@
-import java.util.LinkedHashMap;
-import java.util.Map;
+import java.lang.reflect.InvocationTargetException;
+import java.lang.reflect.Method;
+import java.util.ArrayList;
+import java.util.Arrays;
+import java.util.List;
 
 /** What is told changes nothing, and a call that throws changes nothing: the terms that hold for every promise. */
 public final class EdgeTellingTest {
+    private static final Edge.Maker[] MAKERS = {GlideShelves::new, Edge::rich, Edge::atWindow, Edge::full};
+
     private EdgeTellingTest() {
     }
 
-    private static Map<String, Edge.Act> ofShelves() {
-        Map<String, Edge.Act> calls = new LinkedHashMap<>();
-        calls.put("shelves", GlideShelves::shelves);
-        calls.put("heightOf", x -> x.heightOf(1));
-        calls.put("sideOf", x -> x.sideOf(1));
-        calls.put("slotOf", x -> x.slotOf(1));
-        calls.put("isAtWindow", x -> x.isAtWindow(1));
-        calls.put("thingsIn", x -> x.thingsIn(1, 1));
-        calls.put("weightOf", x -> x.weightOf(1));
-        calls.put("fetchesOf", x -> x.fetchesOf(1));
-        return calls;
+    private static Method find(String name) {
+        return Arrays.stream(GlideShelves.class.getMethods()).filter(method -> method.getName().equals(name)).findAny()
+                .orElseThrow(() -> new IllegalStateException(name));
     }
 
-    private static Map<String, Edge.Act> ofSlots() {
-        Map<String, Edge.Act> calls = new LinkedHashMap<>();
-        calls.put("isFree", x -> x.isFree(1, 19));
-        calls.put("shelfAt", x -> x.shelfAt(0, 3));
-        calls.put("freeBySlots", GlideShelves::freeBySlots);
-        calls.put("freeByHeights", GlideShelves::freeByHeights);
-        calls.put("firstPlace", x -> x.firstPlace(4));
-        calls.put("longestGap", x -> x.longestGap(1));
-        calls.put("lift", GlideShelves::lift);
-        calls.put("isKeptPlace", GlideShelves::isKeptPlace);
-        calls.put("sideWeight", x -> x.sideWeight(0));
-        calls.put("trips", GlideShelves::trips);
-        calls.put("tripTicks", x -> x.tripTicks(0));
-        calls.put("wasFetch", x -> x.wasFetch(0));
-        return calls;
+    /** Each row of numbers from -1 to 12, as many as the call takes. */
+    private static List<Object[]> numbersFor(Method method) {
+        List<Object[]> rows = List.<Object[]>of(new Object[0]);
+        for (int i = 0; i < method.getParameterCount(); i++) {
+            List<Object[]> longer = new ArrayList<>();
+            for (Object[] row : rows) {
+                for (int number = -1; number <= 12; number++) {
+                    Object[] next = Arrays.copyOf(row, row.length + 1);
+                    next[row.length] = number;
+                    longer.add(next);
+                }
+            }
+            rows = longer;
+        }
+        return rows;
     }
 
-    private static Map<String, Edge.Act> ofThings() {
-        Map<String, Edge.Act> calls = new LinkedHashMap<>();
-        calls.put("weightOfKind", x -> x.weightOfKind(1));
-        calls.put("stockByShelves", x -> x.stockByShelves(1));
-        calls.put("stockByAccount", x -> x.stockByAccount(1));
-        calls.put("shelvesWith", x -> x.shelvesWith(1));
-        calls.put("leastOf", x -> x.leastOf(2));
-        calls.put("missingOf", x -> x.missingOf(2));
-        calls.put("shortKinds", GlideShelves::shortKinds);
-        return calls;
+    private static boolean answers(Method method, GlideShelves x, Object[] numbers) {
+        try {
+            return method.invoke(x, numbers) != null;
+        } catch (InvocationTargetException e) {
+            return false;
+        } catch (IllegalAccessException e) {
+            throw new IllegalStateException(e);
+        }
     }
 
-    private static Map<String, Edge.Act> ofOrders() {
-        Map<String, Edge.Act> calls = new LinkedHashMap<>();
-        calls.put("orders", GlideShelves::orders);
-        calls.put("wanted", x -> x.wanted(1, 1));
-        calls.put("thingsOf", x -> x.thingsOf(1));
-        calls.put("canServe", x -> x.canServe(0));
-        calls.put("fewestByTrying", x -> x.fewestByTrying(0));
-        calls.put("fewestByGoing", x -> x.fewestByGoing(0));
-        calls.put("choiceFor", x -> x.choiceFor(0));
-        return calls;
-    }
-
-    private static Map<String, Edge.Act> ofAccounts() {
-        Map<String, Edge.Act> calls = new LinkedHashMap<>();
-        calls.put("ticks", GlideShelves::ticks);
-        calls.put("fetches", GlideShelves::fetches);
-        calls.put("served", GlideShelves::served);
-        calls.put("heaviest", GlideShelves::heaviest);
-        calls.put("mostFetched", GlideShelves::mostFetched);
-        calls.put("usedWays", GlideShelves::usedWays);
-        calls.put("meanWay", GlideShelves::meanWay);
-        calls.put("meanTicks", GlideShelves::meanTicks);
-        calls.put("digest", GlideShelves::digest);
-        return calls;
-    }
-
-    private static void changeNothing(Map<String, Edge.Act> calls, Edge.Maker maker) {
-        for (Map.Entry<String, Edge.Act> call : calls.entrySet()) {
-            Edge.changesNothing(call.getKey(), maker, call.getValue());
+    /** Asks each call that the sentence names with all numbers nearby, whether it answers or throws. */
+    private static void changeNothing() {
+        Edge.is("calls are named", Edge.calls().isEmpty(), false);
+        for (String name : Edge.calls()) {
+            Method method = find(name);
+            List<Object[]> rows = numbersFor(method);
+            boolean[] answered = {false};
+            for (Edge.Maker maker : MAKERS) {
+                Edge.changesNothing(name, maker, x -> {
+                    for (Object[] numbers : rows) {
+                        answered[0] |= answers(method, x, numbers);
+                    }
+                });
+            }
+            Edge.is(name + " answered", answered[0], true);
         }
     }
 
     private static void tellersChangeNothing() {
-        for (Edge.Maker maker : new Edge.Maker[] {Edge::rich, Edge::atWindow}) {
-            Edge.of(0, "the interface says: ---- shelves as they are; nothing is changed.");
-            changeNothing(ofShelves(), maker);
-            Edge.of(0, "the interface says: ---- slots, the lift; nothing is changed.");
-            changeNothing(ofSlots(), maker);
-            Edge.of(0, "the interface says: ---- things; nothing is changed.");
-            changeNothing(ofThings(), maker);
-            Edge.of(0, "the interface says: ---- orders as they are; nothing is changed.");
-            changeNothing(ofOrders(), maker);
-            Edge.of(0, "the interface says: ---- accounts; nothing is changed.");
-            changeNothing(ofAccounts(), maker);
-        }
-        Edge.of(0, "the interface says: ---- orders as they are; nothing is changed.");
-        Edge.changesNothing("ticksByServing", Edge::rich, x -> x.ticksByServing(0));
-        Edge.changesNothing("ticksBySums", Edge::rich, x -> x.ticksBySums(0));
-        Edge.changesNothing("cheapestOrder", Edge::rich, GlideShelves::cheapestOrder);
-        Edge.changesNothing("servable", Edge::rich, GlideShelves::servable);
+        Edge.of(0, "Ahead of the calls `shelves`, `heightOf`, `sideOf`, `slotOf`, `isAtWindow`, `thingsIn`, `weightOf`,"
+                + " `fetchesOf`, `atWindow` the interface says: ---- shelves as they are; nothing is changed.");
+        changeNothing();
+        Edge.of(0, "Ahead of the calls `isFree`, `shelfAt`, `freeBySlots`, `freeByHeights`, `firstPlace`, `longestGap`, `lift`,"
+                + " `isKeptPlace`, `wouldPack`, `sideWeight`, `trips`, `tripTicks`, `wasFetch` the interface says:"
+                + " ---- slots, the lift; nothing is changed.");
+        changeNothing();
+        Edge.of(0, "Ahead of the calls `weightOfKind`, `stockByShelves`, `stockByAccount`, `shelvesWith`, `leastOf`,"
+                + " `missingOf`, `shortKinds` the interface says: ---- things; nothing is changed.");
+        changeNothing();
+        Edge.of(0, "Ahead of the calls `orders`, `wanted`, `thingsOf`, `canServe`, `fewestByTrying`, `fewestByGoing`,"
+                + " `choiceFor`, `ticksByServing`, `ticksBySums`, `cheapestOrder`, `servable` the interface says:"
+                + " ---- orders as they are; nothing is changed.");
+        changeNothing();
         Edge.changesNothing("servable of none", Edge::eightOrders, GlideShelves::servable);
-        Edge.of(0, "the interface says: ---- accounts; nothing is changed.");
-        Edge.changesNothing("fetchTicks", Edge::rich, x -> x.fetchTicks(3));
-        Edge.of(0, "the interface says: ---- slots, the lift; nothing is changed.");
-        Edge.changesNothing("wouldPack", Edge::rich, GlideShelves::wouldPack);
-        Edge.of(0, "the interface says: ---- shelves as they are; nothing is changed.");
-        Edge.changesNothing("atWindow", Edge::atWindow, GlideShelves::atWindow);
+        Edge.of(0, "Ahead of the calls `ticks`, `fetches`, `served`, `fetchTicks`, `heaviest`, `mostFetched`, `usedWays`,"
+                + " `meanWay`, `meanTicks`, `digest` the interface says: ---- accounts; nothing is changed.");
+        changeNothing();
     }
 
     private static void theBufferStays() {
@@ -155,6 +130,6 @@ public final class EdgeTellingTest {
         tellersChangeNothing();
         theBufferStays();
         theFirstNamedIsThrown();
-        Check.end("EdgeTellingTest");
+        Edge.end("EdgeTellingTest");
     }
 }

@@ -4,7 +4,7 @@ public final class EdgeTermsTest {
     }
 
     private static void anObjectIsGoodFor512Calls() {
-        Edge.of(0, "An object is used for at most 512 calls after it has been made");
+        Edge.of(0, "An object is used for at most 512 calls after it has been made; what later calls answer is free.");
         GlideShelves x = Check.tower(1);
         for (int i = 0; i < 255; i++) {
             x.fetch(0);
@@ -141,7 +141,8 @@ public final class EdgeTermsTest {
     }
 
     private static void ticksOfFetching() {
-        Edge.of(0, "Fetching a shelf takes as many ticks as the lift's slot is away from that of the shelf");
+        Edge.of(0, "Fetching a shelf takes as many ticks as the lift's slot is away from that of the shelf, and the way of its"
+                + " place from the window, together; the lift is at the slot 0 then.");
         // The shelf 0 waits at the slot, the lift comes to its own slot with the shelf 1.
         int[][] dues = {{0, 0, 0, 0}, {19, 0, 0, 38}, {0, 0, 19, 19}, {19, 0, 19, 19}, {0, 1, 0, 2}, {19, 1, 0, 40},
             {0, 1, 19, 21}, {19, 1, 19, 21}, {5, 0, 8, 8}, {8, 0, 5, 11}, {8, 1, 5, 13}};
@@ -305,7 +306,8 @@ public final class EdgeTermsTest {
     }
 
     private static void theChoice() {
-        Edge.of(0, "The choice of an order is the set of the fewest shelves that can serve it, of several the one that is the least number as a set");
+        Edge.of(0, "The choice of an order is the set of the fewest shelves that can serve it, of several the one that is the least"
+                + " number as a set: the bit s is 1 just if the shelf s is in it.");
         GlideShelves x = Check.tower(1, 1, 1, 1, 1);
         Check.restock(x, 0, 0, 2);
         Check.restock(x, 3, 1, 2);
@@ -374,6 +376,6 @@ public final class EdgeTermsTest {
         theChoice();
         theOneAtTheWindowCounts();
         inServing();
-        Check.end("EdgeTermsTest");
+        Edge.end("EdgeTermsTest");
     }
 }

@@ -119,7 +119,8 @@ public final class EdgeTextsTest {
     }
 
     private static void termsOfErrors() {
-        Edge.of(0, "a character is a syntax error if no order as a text, of any length, begins with the characters before it and this character");
+        Edge.of(0, "The buffer is read from left to right; a character is a syntax error if no order as a text, of any length,"
+                + " begins with the characters before it and this character.");
         // These begin orders that go on, so that none of their characters is an error.
         for (int length = 0; length <= 49; length++) {
             String start = Edge.ALL_KINDS.substring(0, length);
@@ -140,6 +141,6 @@ public final class EdgeTextsTest {
         termsOfKinds();
         termsOfRising();
         termsOfErrors();
-        Check.end("EdgeTextsTest");
+        Edge.end("EdgeTextsTest");
     }
 }

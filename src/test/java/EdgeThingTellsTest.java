@@ -152,6 +152,6 @@ public final class EdgeThingTellsTest {
         promise50();
         promise51();
         promise52();
-        Check.end("EdgeThingTellsTest");
+        Edge.end("EdgeThingTellsTest");
     }
 }

@@ -433,6 +433,6 @@ public final class EdgeTowerTellsTest {
         promise42();
         promise43();
         promise44And45();
-        Check.end("EdgeTowerTellsTest");
+        Edge.end("EdgeTowerTellsTest");
     }
 }

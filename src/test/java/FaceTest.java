@@ -1,14 +1,22 @@
+import java.io.IOException;
 import java.lang.reflect.Constructor;
 import java.lang.reflect.Field;
 import java.lang.reflect.Method;
 import java.lang.reflect.Modifier;
+import java.nio.file.Files;
+import java.nio.file.Path;
 import java.util.Arrays;
 import java.util.HashSet;
 import java.util.List;
 import java.util.Set;
 import java.util.TreeSet;
+import java.util.regex.Matcher;
+import java.util.regex.Pattern;
 
-/** The class has the face of the document, and no private method bears the name of a public one. */
+/**
+ * The class has the face of the document, and no private method bears the name of a public one. It runs in the project's
+ * folder.
+ */
 public final class FaceTest {
     private static final String IOOBE = "IndexOutOfBoundsException";
     private static final String IAE = "IllegalArgumentException";
@@ -105,6 +113,26 @@ public final class FaceTest {
         return face(method.getReturnType().getSimpleName(), method.getName(), parameters.toString(), thrown);
     }
 
+    /** The face that the pattern finds in the document: a type, a name, parameters and exceptions. */
+    private static Set<String> facesIn(String document, String pattern) {
+        Set<String> faces = new TreeSet<>();
+        Matcher matcher = Pattern.compile(pattern).matcher(document);
+        while (matcher.find()) {
+            String thrown = matcher.group(4) == null ? "" : matcher.group(4);
+            faces.add(face(matcher.group(1), matcher.group(2), matcher.group(3).replaceAll("(\\w+) \\w+", "$1").replace(" ", ""),
+                    thrown.isEmpty() ? new String[0] : thrown.split(", ")));
+        }
+        return faces;
+    }
+
+    /** The document tells each call twice: in the public face, and at the head of its promise. */
+    private static void testDocument() throws IOException {
+        String document = Files.readString(Path.of("../shared/DOC.md"));
+        String call = "(\\w+) (\\w+)\\(([^)]*)\\)(?: throws ([\\w, ]+))?";
+        Check.is("the public face", facesIn(document, "\n    public " + call + ";"), new TreeSet<>(DUE));
+        Check.is("the promises", facesIn(document, "\n`" + call + "`: "), new TreeSet<>(DUE));
+    }
+
     private static void testPublicMembers() {
         Set<String> found = new TreeSet<>();
         for (Method method : GlideShelves.class.getDeclaredMethods()) {
@@ -144,8 +172,9 @@ public final class FaceTest {
         }
     }
 
-    public static void main(String[] args) {
+    public static void main(String[] args) throws IOException {
         Check.is("the promises of methods", DUE.size(), 72);
+        testDocument();
         testPublicMembers();
         testPrivateNames();
         Check.end("FaceTest");

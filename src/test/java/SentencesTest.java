@@ -10,14 +10,18 @@ import java.util.regex.Pattern;
 import java.util.stream.Stream;
 
 /**
- * Each sentence that a test of edges names stands in the document, in the section of its promise (the terms are 0), and
- * each one there that refuses a call or tells a range is named by a test. It runs in the project's folder.
+ * Each sentence that a Says or an Edge test names stands in the document, in the section of its promise (what stands before
+ * the promises is 0), and each sentence there is named by a Says or an Edge test, each one that refuses a call or tells a
+ * range by an Edge test. It runs in the project's folder.
  */
 public final class SentencesTest {
     private static final Path DOCUMENT = Path.of("../shared/DOC.md");
     private static final Path TESTS = Path.of("src/test/java");
     private static final Pattern NAMED = Pattern.compile("Edge\\.of\\((\\d+),\\s*\"((?:[^\"\\\\]|\\\\.)*)\"\\)");
     private static final Pattern RANGE = Pattern.compile("^Returns .*\\d+ (?:to|or) \\d+.*");
+    private static final Pattern SIGNATURE = Pattern.compile("^`[^`]*`: ");
+    // A sentence ends where another one begins behind it, perhaps in brackets.
+    private static final String END = "(?<=[.)])\\s+(?=[A-Z(])";
     private static final int PROMISES = 73;
 
     private SentencesTest() {
@@ -38,16 +42,16 @@ public final class SentencesTest {
         return sections;
     }
 
-    private static List<Path> edgeTests() throws IOException {
+    private static List<Path> tests(String kinds) throws IOException {
         try (Stream<Path> files = Files.list(TESTS)) {
-            return files.filter(file -> file.getFileName().toString().matches("Edge.+Test\\.java")).sorted().toList();
+            return files.filter(file -> file.getFileName().toString().matches(kinds + ".+Test\\.java")).sorted().toList();
         }
     }
 
-    /** The promise, a colon and the sentence, of each that a test names. */
-    private static Set<String> findNamed(List<String> sections) throws IOException {
+    /** The promise, a colon and the sentence, of each that a test of these kinds names. */
+    private static Set<String> findNamed(List<String> sections, String kinds) throws IOException {
         Set<String> named = new HashSet<>();
-        for (Path file : edgeTests()) {
+        for (Path file : tests(kinds)) {
             // A sentence that is longer than a line is joined from two texts.
             String code = Files.readString(file).replaceAll("\"\\s*\\+\\s*\"", "");
             Matcher matcher = NAMED.matcher(code);
@@ -66,22 +70,42 @@ public final class SentencesTest {
         return named;
     }
 
+    /** The sentences of a section, without its code and its headings, some of which are marked by nothing but no end. */
+    private static List<String> sentences(String section) {
+        List<String> sentences = new ArrayList<>();
+        for (String line : section.replaceAll("(?s)```.*?```", "").split("\n")) {
+            if (line.startsWith("Throws `") || line.startsWith("- `")) {
+                sentences.add(line);
+            } else if (line.matches("[^#].*[.)]")) {
+                sentences.addAll(List.of(SIGNATURE.matcher(line).replaceFirst("").split(END)));
+            }
+        }
+        return sentences;
+    }
+
     private static boolean namesAnEdge(String line) {
         return line.startsWith("Throws `") || line.startsWith("- `") || RANGE.matcher(line).matches();
     }
 
+    private static boolean isPartOfOne(Set<String> named, int promise, String sentence) {
+        return named.stream().anyMatch(words -> words.startsWith(promise + ":") && words.contains(sentence));
+    }
+
     public static void main(String[] args) throws IOException {
         List<String> sections = sections();
-        Set<String> named = findNamed(sections);
-        for (int promise = 1; promise <= PROMISES; promise++) {
-            String start = promise + ":";
-            Check.is(promise + " is named", named.stream().anyMatch(words -> words.startsWith(start)), true);
-            for (String line : sections.get(promise).split("\n")) {
-                if (namesAnEdge(line)) {
-                    Check.is("a test names " + start + line, named.contains(start + line), true);
+        Set<String> named = findNamed(sections, "(Says|Edge)");
+        Set<String> edges = findNamed(sections, "Edge");
+        int count = 0;
+        for (int promise = 0; promise <= PROMISES; promise++) {
+            for (String sentence : sentences(sections.get(promise))) {
+                count++;
+                Check.is("a test names " + promise + ": " + sentence, isPartOfOne(named, promise, sentence), true);
+                if (promise > 0 && namesAnEdge(sentence)) {
+                    Check.is("an edge test names " + promise + ": " + sentence, edges.contains(promise + ":" + sentence), true);
                 }
             }
         }
+        Check.is("at least so many sentences could be read: " + count, count >= 335, true);
         Check.end("SentencesTest");
     }
 }
